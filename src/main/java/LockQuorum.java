@@ -145,28 +145,19 @@ public final class LockQuorum {
 
     public char request(int client, int lock, int member)
             throws NoSuchElementException, IndexOutOfBoundsException, IllegalStateException {
-        checkNumbers(client, lock, member);
-        checkCanAsk(client, member);
         return obtain(client, lock, member, false);
     }
 
     public char steal(int client, int lock, int member)
             throws NoSuchElementException, IndexOutOfBoundsException, IllegalStateException {
-        checkNumbers(client, lock, member);
-        checkCanAsk(client, member);
         return obtain(client, lock, member, true);
     }
 
     public char renew(int client, int lock, int member)
             throws NoSuchElementException, IndexOutOfBoundsException, IllegalStateException {
-        checkNumbers(client, lock, member);
-        checkCanAsk(client, member);
-        char verdict = members.consult(member);
+        char verdict = askAsOwner(client, lock, member);
         if (verdict != GRANTED) {
             return verdict;
-        }
-        if (!locks.isHeldBy(lock, client, now)) {
-            return NOT_OWNER;
         }
         if (locks.thief[lock] != NONE) {
             return STOLEN;
@@ -177,14 +168,9 @@ public final class LockQuorum {
 
     public char release(int client, int lock, int member)
             throws NoSuchElementException, IndexOutOfBoundsException, IllegalStateException {
-        checkNumbers(client, lock, member);
-        checkCanAsk(client, member);
-        char verdict = members.consult(member);
+        char verdict = askAsOwner(client, lock, member);
         if (verdict != GRANTED) {
             return verdict;
-        }
-        if (!locks.isHeldBy(lock, client, now)) {
-            return NOT_OWNER;
         }
         endLease(client, lock, member);
         return GRANTED;
@@ -398,6 +384,8 @@ public final class LockQuorum {
     }
 
     private char obtain(int client, int lock, int member, boolean isTheft) {
+        checkNumbers(client, lock, member);
+        checkCanAsk(client, member);
         char verdict = members.consult(member);
         if (verdict != GRANTED) {
             return verdict;
@@ -416,6 +404,13 @@ public final class LockQuorum {
         }
         locks.putLast(lock, client);
         return WAITING;
+    }
+
+    private char askAsOwner(int client, int lock, int member) {
+        checkNumbers(client, lock, member);
+        checkCanAsk(client, member);
+        char verdict = members.consult(member);
+        return verdict == GRANTED && !locks.isHeldBy(lock, client, now) ? NOT_OWNER : verdict;
     }
 
     private void startLease(int client, int lock, int member) {

@@ -235,6 +235,7 @@ public final class LeasesTest {
         x.quit(3, 0);
         CHECK.is("waitingAt(0, 2)", x.waitingAt(0, 2), 2);
         CHECK.is("waitingAt(0, 3)", x.waitingAt(0, 3), 4);
+        CHECK.is("waitingAt(0, 4)", x.waitingAt(0, 4), 5);
         for (int none : new int[] {-1, 5, 6, Integer.MAX_VALUE, Integer.MIN_VALUE}) {
             CHECK.fails("waitingAt(0, none)", NoSuchElementException.class, () -> x.waitingAt(0, none));
         }

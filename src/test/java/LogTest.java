@@ -92,6 +92,13 @@ public final class LogTest {
         CHECK.is("isOneOrder() of the next", x.isOneOrder(), true);
         x.release(1, 0, 0);
         CHECK.is("isOneOrder() after a release", x.isOneOrder(), true);
+        LockQuorum y = new LockQuorum();
+        y.stand(0);
+        for (int client = 0; client < 6; client++) {
+            y.addClient();
+            y.request(client, client % 4, 0);
+        }
+        CHECK.is("isOneOrder() of six clients and four leases", y.isOneOrder(), true);
     }
 
     /** No run of calls leads to disorder, so that the state itself has to be spoilt to see it found. */

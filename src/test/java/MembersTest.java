@@ -232,6 +232,18 @@ public final class MembersTest {
         CHECK.is("ownerKnown(4, 2) after the end", x.ownerKnown(4, 2), 1);
         x.request(0, 2, 0);
         CHECK.is("ownerKnown(4, 2) of the next", x.ownerKnown(4, 2), 0);
+        LockQuorum y = new LockQuorum();
+        y.stand(0);
+        y.addClient();
+        y.setDown(4, true);
+        y.request(0, 0, 0);
+        CHECK.fails("ownerKnown(4, 0), which missed the first entry", NoSuchElementException.class,
+                () -> y.ownerKnown(4, 0));
+        y.setDown(4, false);
+        y.renew(0, 0, 0);
+        y.setDown(4, true);
+        y.release(0, 0, 0);
+        CHECK.is("ownerKnown(4, 0), which missed the last entry", y.ownerKnown(4, 0), 0);
         for (int none : NO_MEMBERS) {
             CHECK.fails("ownerKnown(none, 0)", IndexOutOfBoundsException.class, () -> x.ownerKnown(none, 0));
         }
@@ -299,6 +311,16 @@ public final class MembersTest {
         x.setDown(2, false);
         CHECK.is("too few", x.read(0, 0, 0), 'n');
         CHECK.is("termOf(2) after too few", x.termOf(2), 2);
+        for (int away = 0; away < 5; away++) {
+            int leader = (away + 1) % 5;
+            LockQuorum y = new LockQuorum();
+            y.addClient();
+            y.setDown(away, true);
+            y.stand(leader);
+            y.setDown(away, false);
+            CHECK.is("a read", y.read(0, 0, leader), 'g');
+            CHECK.is("termOf each member after a read", y.termOf(away), 1);
+        }
     }
 
     private static char ask(LockQuorum x, int what, int member) {

@@ -108,6 +108,15 @@ public final class ValuesTest {
         x.setPaused(1, false);
         CHECK.fails("nothing kept", IllegalStateException.class, () -> x.kept(1, 0));
 
+        for (int reader = 0; reader < 3; reader++) {
+            LockQuorum z = threeClients();
+            int writer = (reader + 1) % 3;
+            z.request(writer, 0, 0);
+            z.read(reader, 0, 0);
+            z.setPaused(reader, true);
+            CHECK.is("write with each reader paused", z.write(writer, 0, 0, 5), 'b');
+        }
+
         LockQuorum y = threeClients();
         y.request(0, 0, 0);
         y.read(1, 0, 0);
