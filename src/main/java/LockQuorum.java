@@ -17,7 +17,7 @@ public final class LockQuorum {
     private static final char NO_QUORUM = 'n';
     private static final char HELD = 'h';
     private static final char WAITING = 'w';
-    private static final char MUGGING = 'm';
+    private static final char WAITING_AS_THIEF = 'm';
     private static final char NOT_OWNER = 'o';
     private static final char STOLEN = 's';
     private static final char BLOCKED = 'b';
@@ -400,7 +400,7 @@ public final class LockQuorum {
         if (isTheft) {
             locks.putFirst(lock, client);
             locks.thief[lock] = client;
-            return MUGGING;
+            return WAITING_AS_THIEF;
         }
         locks.putLast(lock, client);
         return WAITING;
